@@ -347,19 +347,22 @@ public final class ServiceTree {
             for (int s = 0; s < services.size(); s++) {
                 if (holds(left, s) && (relations.awaitedBy(s, starts, stops) & left) == 0) {
                     int begin = latestPlan.endOf(relations.awaitedBy(s, starts, stops));
-                    latestPlan.add(s, begin, begin + ticksOfJob(s, holds(starts, s)));
+                    latestPlan.add(s, begin, begin + (holds(starts, s) ? ticksToStart(s) : ticksToStop(s, begin)));
                     left &= ~only(s);
                 }
             }
         }
     }
 
-    private int ticksOfJob(int s, boolean toStart) {
+    private int ticksToStart(int s) {
+        return services.get(s).startTicks;
+    }
+
+    /** A service that is WAITING is DOWN at once, but only as long as its DELAY is not over when its JOB begins. */
+    private int ticksToStop(int s, int begin) {
         Service service = services.get(s);
-        if (toStart) {
-            return service.startTicks;
-        }
-        return service.state == WAITING ? 0 : service.stopTicks;
+        boolean stillWaiting = service.state == WAITING && (begin == 0 || !service.isDue(now + begin));
+        return stillWaiting ? 0 : service.stopTicks;
     }
 
     private void beginJobs() {

@@ -7,8 +7,8 @@ import java.util.TreeSet;
 
 /**
  * The document written down a second time, as naively as can be and with none of the program's ways:
- * relations as rows of truth values, JOBS with a list of those for which they wait, a PLAN played through
- * tick by tick. Random runs are held against it.
+ * relations as rows of truth values, JOBS with a list of those for which they wait, a PLAN really carried
+ * out on a copy. Random runs are held against it.
  */
 final class Model {
     static final int NONE = -1, KIND = -2, BUSY = -3, CLASH = -4, RING = -5, FULL = -6;
@@ -462,10 +462,11 @@ final class Model {
                 endLife(s, v);
             }
             if (v.state == WAITING && tick - v.since >= v.delay) {
-                set(s, lacks(s) || opposed(s) ? FAILED : v.start == 0 ? UP : STARTING);
+                boolean fails = !nothingFails && (lacks(s) || opposed(s));
+                set(s, fails ? FAILED : v.start == 0 ? UP : STARTING);
             }
         }
-        boolean going = true;
+        boolean going = !nothingFails;
         while (going) {
             going = false;
             for (int s = 0; s < svc.size() && !going; s++) {
@@ -591,31 +592,60 @@ final class Model {
         return answer;
     }
 
+    /** Carries the JOBS out on a copy in which nothing fails and no LIFE ends, and notes when they begin and end. */
     void play(TreeMap<Integer, Job> made) {
-        int open = made.size();
-        for (int t = 0; open > 0; t++) {
-            boolean moved = true;
-            while (moved) {
-                moved = false;
-                for (Job j : made.values()) {
-                    boolean free = j.begin < 0;
-                    for (int other : j.waitsFor) {
-                        free &= made.get(other).end >= 0;
-                    }
-                    if (free) {
-                        j.begin = t;
-                        moved = true;
-                    }
-                    Svc v = svc.get(j.s);
-                    int ticks = j.toStart ? v.start : v.state == WAITING ? 0 : v.stop;
-                    if (j.begin >= 0 && j.end < 0 && t - j.begin == ticks) {
-                        j.end = t;
-                        open--;
-                        moved = true;
-                    }
+        Model dream = copyWithoutLife();
+        for (Job j : made.values()) {
+            Job twin = new Job();
+            twin.s = j.s;
+            twin.toStart = j.toStart;
+            twin.waitsFor.addAll(j.waitsFor);
+            dream.jobs.put(j.s, twin);
+            if (j.toStart) {
+                dream.svc.get(j.s).state = DOWN;
+            }
+        }
+        TreeMap<Integer, Job> twins = new TreeMap<>(dream.jobs);
+        for (int t = 0; t == 0 || !dream.jobs.isEmpty(); t++) {
+            if (t == 0) {
+                dream.beginAll();
+            } else {
+                dream.oneTick();
+            }
+            for (Job j : made.values()) {
+                if (j.begin < 0 && twins.get(j.s).begun) {
+                    j.begin = t;
+                }
+                if (j.end < 0 && !dream.jobs.containsKey(j.s)) {
+                    j.end = t;
                 }
             }
         }
+    }
+
+    /** True of a copy in which what would fail goes on all the same. */
+    boolean nothingFails;
+
+    Model copyWithoutLife() {
+        Model copy = new Model();
+        copy.nothingFails = true;
+        copy.tick = tick;
+        for (int how = 0; how < 4; how++) {
+            for (int a = 0; a < 40; a++) {
+                copy.rel[how][a] = rel[how][a].clone();
+            }
+        }
+        for (Svc v : svc) {
+            Svc twin = new Svc();
+            twin.kind = v.kind;
+            twin.start = v.start;
+            twin.stop = v.stop;
+            twin.state = v.state;
+            twin.since = v.since;
+            twin.delay = v.delay;
+            copy.svc.add(twin);
+        }
+        return copy;
     }
 
     int planned(int i, int what) {

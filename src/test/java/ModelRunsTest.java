@@ -2,7 +2,7 @@ import java.util.Random;
 
 /** Random runs, the same ones each time, of the program beside the naive model. */
 public final class ModelRunsTest {
-    private static final int RUNS = 4000;
+    private static final int RUNS = 3000;
     private static final int CALLS = 420;
 
     private final Checks checks;
@@ -37,12 +37,27 @@ public final class ModelRunsTest {
         for (int i = 0; i < most * 2; i++) {
             relate();
         }
+        if (seed % 2 == 0) {
+            tellOfFailing();
+        }
         for (int i = 0; i < CALLS && checks.wrongSoFar() == 0; i++) {
             callOne();
             compareAll();
         }
         if (checks.wrongSoFar() != 0) {
             System.out.println("seed " + seed + ":\n" + story);
+        }
+    }
+
+    /** In these runs much fails and waits, which the calls by themselves seldom bring about. */
+    private void tellOfFailing() {
+        for (int s = 0; s < model.svc.size(); s++) {
+            for (int i = 0; i < 8; i++) {
+                int v = upTo(4 * longest);
+                same("life(" + s + ", " + i + ", " + v + ")", tree.life(s, i, v), model.life(s, i, v));
+            }
+            int delay = 1 + upTo(Math.min(49, 3 * longest));
+            same("again(" + s + ", " + delay + ", 8, 60)", tree.again(s, delay, 8, 60), model.again(s, delay, 8, 60));
         }
     }
 
