@@ -260,7 +260,7 @@ public final class ServiceTree {
         if (leastLacking() >= 0) {
             broken++;
         }
-        if (relations.clash(busyWithRunning())) {
+        if (relations.clash(startingUpOrStopping())) {
             broken++;
         }
         return broken;
@@ -288,7 +288,7 @@ public final class ServiceTree {
         return within(how, 0, AGAINST) && exists(a) && exists(b) && a != b;
     }
 
-    private long busyWithRunning() {
+    private long startingUpOrStopping() {
         return inState[STARTING] | inState[UP] | inState[STOPPING];
     }
 
@@ -453,7 +453,7 @@ public final class ServiceTree {
     }
 
     private boolean canWake(int s) {
-        return hasItsNeeds(s) && (relations.from(AGAINST, s) & busyWithRunning()) == 0;
+        return hasItsNeeds(s) && (relations.from(AGAINST, s) & startingUpOrStopping()) == 0;
     }
 
     /** GOING. It can only be called for by a change of STATE: a quiet tick passes it by. */
@@ -595,7 +595,9 @@ public final class ServiceTree {
         void note(int now) {
             times[next] = now;
             next = (next + 1) % MOST_BUDGET;
-            filled = Math.min(filled + 1, MOST_BUDGET);
+            if (filled < MOST_BUDGET) {
+                filled++;
+            }
         }
 
         /** Fewer than BUDGET times are in the WINDOW just if the BUDGET-th latest one is not. */
@@ -802,10 +804,10 @@ public final class ServiceTree {
 
         /** How many JOBS there would be, or CLASH or RING. */
         int weigh(int how, int x, long up, long waiting) {
-            long awake = up | waiting;
+            long stoppable = up | waiting;
             members = 0;
             if (how == STOP) {
-                stops = relations.withNeeders(only(x), awake) & awake;
+                stops = relations.withNeeders(only(x), stoppable) & stoppable;
             } else {
                 int refusal = gatherNeeded(x, ~up);
                 if (refusal < 0) {
@@ -813,7 +815,7 @@ public final class ServiceTree {
                 }
                 gatherWanted(~up);
                 long unwanted = relations.fromAny(AGAINST, members) | (how == ISOLATE ? ~members : 0);
-                stops = relations.withNeeders(unwanted & awake, awake);
+                stops = relations.withNeeders(unwanted & stoppable, stoppable);
                 if ((stops & members) != 0) {
                     return CLASH;
                 }
@@ -917,9 +919,10 @@ public final class ServiceTree {
         }
 
         void end(int s) {
-            starts &= ~only(s);
-            stops &= ~only(s);
-            begun &= ~only(s);
+            long others = ~(1L << s);
+            starts &= others;
+            stops &= others;
+            begun &= others;
         }
 
         void noteState(int s, int state) {

@@ -11,6 +11,8 @@ public final class OrdersTest {
         wants();
         wantsLeastFirst();
         wantsThatClashOrRing();
+        wantsAfterOneLeftOut();
+        wantsBesideOneThatIsUp();
         againstIsStopped();
         isolate();
         startOfOneThatWaits();
@@ -22,6 +24,7 @@ public final class OrdersTest {
         clashBeforeRing();
         fallsOut();
         stopThatFallsOut();
+        stopOfOneThatWent();
         waitsToStop();
         CHECKS.end();
     }
@@ -202,6 +205,29 @@ public final class OrdersTest {
         due("the wanted 1 NEEDS one AGAINST 0: it is left out, and both are stopped", x.order(0, 0), 3);
     }
 
+    private static void wantsAfterOneLeftOut() {
+        ServiceTree x = withServices(5, 0, 0);
+        x.relation(1, 0, 1);
+        x.relation(3, 0, 1);
+        x.relation(1, 0, 2);
+        x.relation(2, 2, 0);
+        x.relation(2, 0, 2);
+        x.relation(1, 0, 3);
+        x.relation(1, 3, 4);
+        due("1 clashes, 2 would RING, 3 and 4 come", x.order(0, 0), 3);
+        states("then", x, 2, 0, 0, 2, 2);
+    }
+
+    private static void wantsBesideOneThatIsUp() {
+        ServiceTree x = withServices(3, 0, 0);
+        x.order(0, 0);
+        x.relation(1, 0, 1);
+        x.relation(2, 0, 1);
+        x.relation(2, 1, 0);
+        due("0 is UP, so 1 does not RING with it", x.order(0, 0), 1);
+        states("then", x, 2, 2, 0);
+    }
+
     private static void againstIsStopped() {
         ServiceTree x = withServices(5, 1, 2);
         x.relation(3, 0, 1);
@@ -342,12 +368,37 @@ public final class OrdersTest {
         x.relation(2, 4, 3);
         due("order with a still shorter one", x.order(0, 1), -5);
         due("ring()", x.ring(), 2);
+        x.relation(0, 5, 0);
+        due("one that is in no ring, but NEEDS one of it", x.order(0, 5), -5);
+        due("ring()", x.ring(), 2);
+        x.undo(0, 5, 0);
         due("order that is not refused", x.order(0, 5), 1);
         due("ring() stays", x.ring(), 2);
         due("order refused otherwise", x.order(0, 0), -3);
         due("ring() stays", x.ring(), 2);
         upBreaksRing();
         letterKeepsRing();
+        ringOfAll();
+    }
+
+    private static void ringOfAll() {
+        ServiceTree x = withServices(40, 0, 0);
+        for (int s = 0; s < 40; s++) {
+            x.relation(s % 2 * 2, s, (s + 1) % 40);
+            x.relation(0, 5, s);
+        }
+        due("many short ones", x.order(0, 5), -5);
+        due("ring()", x.ring(), 2);
+        for (int s = 0; s < 40; s++) {
+            x.undo(0, 5, s);
+        }
+        x.relation(0, 5, 6);
+        for (int s = 1; s < 40; s += 2) {
+            x.undo(2, s, (s + 1) % 40);
+            x.relation(0, s, (s + 1) % 40);
+        }
+        due("one of all forty", x.plan(2, 39), -5);
+        due("ring()", x.ring(), 40);
     }
 
     private static void upBreaksRing() {
@@ -461,6 +512,29 @@ public final class OrdersTest {
         due("it still has its JOB", x.about(0, 5), 2);
         x.tick(2);
         states("the JOB falls out", x, 4, 0, 0, 2);
+        due("count(2)", x.count(2), 0);
+    }
+
+    private static void stopOfOneThatWent() {
+        // 0 has gone by itself, and is DOWN, before its JOB to stop may begin.
+        ServiceTree x = new ServiceTree();
+        x.make(0, 0, 1);
+        x.make(0, 0, 0);
+        x.make(0, 0, 4);
+        x.make(0, 0, 0);
+        x.relation(0, 0, 1);
+        x.relation(2, 2, 0);
+        x.life(1, 0, 1);
+        x.order(0, 0);
+        x.order(0, 2);
+        due("ISOLATE 3", x.order(2, 3), 4);
+        x.tick(2);
+        states("0 went", x, 0, 4, 3, 2);
+        due("its JOB waits still", x.about(0, 5), 2);
+        int before = x.changes();
+        x.tick(2);
+        states("then", x, 0, 4, 0, 2);
+        due("only 2 changed", x.changes(), before + 1);
         due("count(2)", x.count(2), 0);
     }
 

@@ -4,6 +4,7 @@ public final class RelationsTest {
 
     public static void main(String[] args) {
         toldAndUndone();
+        undoneIsGone();
         againstIsOfBoth();
         wrongNumbers();
         busy();
@@ -42,6 +43,25 @@ public final class RelationsTest {
             due("the other way stays", x.related(how, 1, 0), 1);
             due("count(1)", x.count(1), 1);
         }
+    }
+
+    private static void undoneIsGone() {
+        ServiceTree x = withServices(4);
+        x.relation(0, 1, 0);
+        x.relation(0, 2, 0);
+        x.relation(0, 1, 3);
+        x.relation(0, 3, 1);
+        due("undo(0, 3, 1)", x.undo(0, 3, 1), 1);
+        due("undo(0, 1, 0)", x.undo(0, 1, 0), 1);
+        due("2 NEEDS 0 still", x.related(0, 2, 0), 1);
+        due("1 NEEDS 3 still", x.related(0, 1, 3), 1);
+        due("START 1 starts 3, not 0", x.order(0, 1), 2);
+        x.tick(4);
+        due("START 2 starts 0", x.order(0, 2), 2);
+        x.tick(4);
+        due("STOP 0 stops 2, not 1", x.order(1, 0), 2);
+        x.tick(4);
+        due("STOP 3 stops 1", x.order(1, 3), 2);
     }
 
     private static void againstIsOfBoth() {
