@@ -209,7 +209,7 @@ public final class ServiceTree {
     }
 
     public int related(int how, int a, int b) {
-        if (!within(how, 0, AGAINST) || !exists(a) || !exists(b)) {
+        if (!canRelate(how, a, b)) {
             return NONE;
         }
         return relations.told(how, a, b) ? 1 : 0;
@@ -284,6 +284,7 @@ public final class ServiceTree {
         return within(s, 0, services.size() - 1);
     }
 
+    /** A RELATION is one of a service to another one, so none of itself to itself can be told or asked for. */
     private boolean canRelate(int how, int a, int b) {
         return within(how, 0, AGAINST) && exists(a) && exists(b) && a != b;
     }

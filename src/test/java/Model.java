@@ -558,7 +558,7 @@ final class Model {
     }
 
     int related(int how, int a, int b) {
-        if (how < 0 || how > 3 || no(a) || no(b)) {
+        if (how < 0 || how > 3 || no(a) || no(b) || a == b) {
             return NONE;
         }
         return rel[how][a][b] ? 1 : 0;

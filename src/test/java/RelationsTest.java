@@ -7,6 +7,7 @@ public final class RelationsTest {
         undoneIsGone();
         againstIsOfBoth();
         wrongNumbers();
+        relatedToItself();
         busy();
         clash();
         full();
@@ -89,9 +90,27 @@ public final class RelationsTest {
         for (int how = 0; how < 4; how++) {
             due("relation of one to itself", x.relation(how, 1, 1), -1);
             due("undo of one to itself", x.undo(how, 1, 1), -1);
-            due("related of one to itself", x.related(how, 1, 1), 0);
         }
         due("count(1)", x.count(1), 0);
+    }
+
+    private static void relatedToItself() {
+        due("related without services", new ServiceTree().related(0, 0, 0), -1);
+        ServiceTree x = withServices(40);
+        for (int how = 0; how < 4; how++) {
+            for (int s = 0; s < 40; s++) {
+                due("related of one to itself", x.related(how, s, s), -1);
+            }
+            due("relation to another", x.relation(how, 0, 1), 1);
+            due("related to another", x.related(how, 0, 1), 1);
+            due("related to itself still not", x.related(how, 0, 0), -1);
+            due("related from itself still not", x.related(how, 1, 1), -1);
+        }
+        due("no relation to a third one", x.related(0, 0, 2), 0);
+        x.undo(3, 0, 1);
+        x.order(0, 0);
+        due("there are JOBS", x.count(2), 2);
+        due("with JOBS, too", x.related(0, 0, 0), -1);
     }
 
     private static void busy() {
