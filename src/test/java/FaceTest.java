@@ -107,7 +107,8 @@ public final class FaceTest {
             }
         }
         String code = text.replaceAll("(?s)/\\*.*?\\*/", " ").replaceAll("//[^\n]*", " ");
-        String[] banned = {"\\b(throws?|try|catch|finally|synchronized|assert|yield|var|Object|System|Thread)\\b",
+        String[] banned = {"\\b(throws?|try|catch|finally|synchronized|assert|yield|var|Object|Thread)\\b",
+            "\\bSystem\\b(?!\\.arraycopy\\b)",
             "->", "::", "\\bstatic\\s*\\{", "\\bpackage\\b", "\\w+Exact\\b", "\\b(equals|hashCode|toString)\\b",
             "\\bimport\\s+(?!java\\.util\\.(ArrayList|List|Arrays);)", "\"", "\\bnew\\s+\\w+\\s*\\([^;]*\\)\\s*\\{"};
         for (String words : banned) {
@@ -115,7 +116,8 @@ public final class FaceTest {
             CHECKS.that("no " + words + " in the source", !found.find());
         }
         Matcher library = Pattern.compile("\\b(Integer|Long|Math|Arrays)\\.(\\w+)").matcher(code);
-        Set<String> allowed = Set.of("compare", "max", "min", "abs", "bitCount", "floorDiv", "floorMod", "fill", "copyOf");
+        Set<String> allowed = Set.of("compare", "max", "min", "abs", "bitCount", "floorDiv", "floorMod", "fill", "copyOf",
+            "copyOfRange");
         while (library.find()) {
             CHECKS.that(library.group() + " is of the library", allowed.contains(library.group(2)));
         }
