@@ -6,6 +6,7 @@ public final class JobsTest {
         startWaitsForStarts();
         startWaitsForStops();
         stopWaitsForStops();
+        noJobWaitsForNone();
         leastBegins();
         leastOfThoseThatWaitForNone();
         startFallsOut();
@@ -112,6 +113,33 @@ public final class JobsTest {
             waits(3, 0) = 0
             """).states(2, 3, 3, 2, 2).row("tick(2)", 2).states(3, 0, 0, 2, 2)
             .row("tick(2)", 4).states(0, 0, 0, 2, 3).row("tick(2)", 6).row("in(2)", 1).end();
+    }
+
+    private static void noJobWaitsForNone() {
+        services("one without a JOB, beside one that stops", 3, 0, 3).rows("""
+            relation(2, 1, 0) = 1    # 1 is BEHIND 0
+            relation(0, 1, 2) = 1
+            order(0, 0) = 1
+            order(0, 1) = 2
+            order(1, 1) = 1
+            waits(0, 0) = 0
+            waits(2, 0) = 0
+            waits(1, 0) = 0
+            waits(1, 1) = 0
+            tick(3) = 3
+            waits(1, 0) = 0
+            """).states(2, 0, 2).end();
+        services("one without a JOB, beside one that starts", 3, 3, 0).rows("""
+            relation(0, 0, 1) = 1    # 0 NEEDS 1
+            relation(2, 2, 1) = 1
+            relation(3, 2, 0) = 1
+            order(0, 1) = 1
+            waits(0, 0) = 0
+            waits(2, 0) = 0
+            waits(1, 0) = 0
+            waits(1, 1) = 0
+            tick(3) = 3
+            """).states(0, 2, 0).end();
     }
 
     private static void leastBegins() {

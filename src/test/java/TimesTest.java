@@ -7,6 +7,7 @@ public final class TimesTest {
         startAndStopOfNoTick();
         life();
         lifeOfOnce();
+        lifeBesideOthers();
         lifeOfNoEnd();
         lifeOfTheEighthStartAndLater();
         lifeToldWhileItRuns();
@@ -105,6 +106,33 @@ public final class TimesTest {
             story.row("about(0, 4)", 1).row("order(1, 0)", 2).row("about(0, 4)", 0);
             story.row("order(0, 0)", 1).row("about(0, 4)", 0).end();
         }
+    }
+
+    private static void lifeBesideOthers() {
+        story("one that has ENDED or failed leaves the LIFE of the others").rows("""
+            make(0, 0, 0) = 0
+            make(1, 0, 0) = 1
+            make(0, 0, 0) = 2
+            make(1, 0, 0) = 3
+            life(0, 0, 3) = 0
+            life(1, 0, 1) = 0
+            life(2, 0, 2) = 0
+            life(3, 0, 3) = 0
+            order(0, 0) = 1
+            order(0, 1) = 1
+            order(0, 2) = 1
+            order(0, 3) = 1
+            tick(1) = 1
+            about(1, 4) = 1
+            about(3, 4) = 0
+            tick(1) = 2
+            about(2, 0) = 4
+            about(0, 0) = 2
+            tick(1) = 3
+            about(0, 0) = 4
+            about(3, 4) = 1
+            about(1, 4) = 1
+            """).end();
     }
 
     private static void lifeOfNoEnd() {
