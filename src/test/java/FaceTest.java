@@ -96,7 +96,21 @@ public final class FaceTest {
         CHECKS.that(c + " has at most some twenty fields", fields <= 20);
         for (Method m : c.getDeclaredMethods()) {
             CHECKS.that(m + " takes at most seven", m.getParameterCount() <= 7);
+            boolean ofTheFace = Arrays.asList(FACE).stream().anyMatch(call -> call.startsWith(m.getName() + " "));
+            CHECKS.that(m + " bears no name of the face", !ofTheFace || Modifier.isPublic(m.getModifiers()));
         }
+    }
+
+    /** A method ends where its own indent closes it. */
+    private static void methodsAreShort(String text) {
+        Matcher method = Pattern.compile("(?ms)^( +)[^\\s/*][^\n;={]*\\) \\{\n.*?^\\1\\}$").matcher(text);
+        int seen = 0;
+        while (method.find()) {
+            seen++;
+            long lines = method.group().lines().count();
+            CHECKS.that(method.group().lines().findFirst().get() + " has " + lines + " lines", lines <= 60);
+        }
+        CHECKS.that("methods were found", seen > 60);
     }
 
     private static void source() throws IOException {
@@ -106,6 +120,7 @@ public final class FaceTest {
                 CHECKS.that("only plain signs, at " + i, false);
             }
         }
+        methodsAreShort(text);
         String code = text.replaceAll("(?s)/\\*.*?\\*/", " ").replaceAll("//[^\n]*", " ");
         String[] banned = {"\\b(throws?|try|catch|finally|synchronized|assert|yield|var|Object|Thread)\\b",
             "\\bSystem\\b(?!\\.arraycopy\\b)",
